@@ -593,7 +593,7 @@ public final class TickKeeper {
             return minutes == 0 || hours == 0;
         }
 
-        /** The first meant minute of a day from one on; DAY_MINUTES if there is none. */
+        /** Where there are any: the first meant minute of a day from one on, or DAY_MINUTES. */
         int minuteOfDayFrom(int from) {
             int hour = from / 60;
             long rest = minutes >>> from % 60;
@@ -601,7 +601,7 @@ public final class TickKeeper {
                 return from + lowestBit(rest);
             }
             int later = hours >> hour + 1;
-            if (later == 0 || minutes == 0) {
+            if (later == 0) {
                 return DAY_MINUTES;
             }
             return (hour + 1 + lowestBit(later)) * 60 + lowestBit(minutes);
@@ -708,7 +708,8 @@ public final class TickKeeper {
                     continue;
                 }
                 int local = firstJobMinute(zone.firstLocal(part, start), last);
-                while (local <= last) {
+                // Each turn leaves an exception or all that an earlier part had: 16 turns at most.
+                for (int turn = 0; turn < 100 && local <= last; turn++) {
                     // A skipped local minute stands for the shift's minute, whatever was before.
                     int minute = Math.max(start, local - offset);
                     int had = minute == local - offset ? zone.hadUpTo(part, local) : local - 1;
