@@ -406,7 +406,7 @@ public final class LettersTest {
         give(x, PROMISED, 0);
         isSeat("of a round that is forgotten", x, 0, 0, 4, 0, -1, 0, -1, 1, 4, -1);
         loseAll(x);
-        give2(x);
+        beginRoundThenPromiseAnother(x);
         // 0 has promised 8 to scheduler 1, so its own round of 7 is not its promise any more.
         give(x, PROMISED, 0);
         isSeat("a promise above its own ballot", x, 0, 0, 8, 0, -1, 0, -1, 1, 7, -1);
@@ -420,7 +420,7 @@ public final class LettersTest {
         check.is("17 the second PROMISED is nothing at stage 2", x.letters(), waiting - 1);
     }
 
-    private static void give2(TickKeeper x) {
+    private static void beginRoundThenPromiseAnother(TickKeeper x) {
         x.wake(0);
         give(x, PREPARE, 2);
         give(x, PREPARE, 1);
