@@ -1,13 +1,19 @@
 /** Counts the answers of a test that are not the ones that are due, and tells each of them. */
 final class Check {
+    private String sentence = "";
     private int asked = 0;
     private int wrong = 0;
+
+    /** What is asked from here on belongs to this sentence of the document, which is told with it. */
+    void of(String words) {
+        sentence = "\"" + words + "\": ";
+    }
 
     void is(String what, long got, long want) {
         asked++;
         if (got != want) {
             wrong++;
-            System.out.println(what + " answered " + got + ", due is " + want);
+            System.out.println(sentence + what + " answered " + got + ", due is " + want);
         }
     }
 

@@ -34,7 +34,7 @@ public final class RoomTest {
             x.mask(i, 0, -1, -1);
             x.holiday(0, i);
         }
-        for (int i = 0; i < 60; i++) {
+        for (int i = 0; i < 55; i++) {
             x.time(1000 * i);
             x.wake(i % 3);
             x.deliver(0);
