@@ -38,11 +38,13 @@ public final class LetterEdgesTest extends LetterBench {
         lastOneOfTwo();
         claimedOrNext();
         waitingForNothingKnown();
+        waitingBeforeTheFirstDay();
         waitingByDays();
         waitingForSeveral();
         waitingWithWhatIsClaimedAgain();
         acceptAndThePromise();
         acceptedOfAnotherRound();
+        acceptedOfAnOldRound();
         desksOfJobs();
         effectOnceMore();
         fewerThan40();
@@ -452,9 +454,11 @@ public final class LetterEdgesTest extends LetterBench {
         fill(x, 59);
         check.yes("the 60th", x.twin(15));
         isLetter("it waits behind all", x, 59, PREPARE, 0, 2, 7, 1, -1, 0, 0);
-        for (int i = 0; i < 60; i++) {
+        for (int i = 0; i < 59; i++) {
             check.no("60 wait", x.twin(i));
+            check.is("the last one is as it was", x.letter(59, 3), 7);
         }
+        check.no("60 wait", x.twin(59));
         check.is("60 still", x.letters(), 60);
         x.lose(0);
         check.yes("there is room again", x.twin(0));
@@ -779,11 +783,40 @@ public final class LetterEdgesTest extends LetterBench {
         check.of("false if .. both are one");
         for (int job = 0; job < 8; job++) {
             TickKeeper z = twoJobs(0);
-            check.no("on", z.after(job, job, true));
             check.no("off", z.after(job, job, false));
+            check.no("on", z.after(job, job, true));
             z.set(job, 2, 2);
             check.is("it doesn't wait for itself", stageOf(z, job), 2);
         }
+    }
+
+    /** The moment's local day may be day - 1, which no effect lies before: it has to wait all the same. */
+    private static void waitingBeforeTheFirstDay() {
+        check.of("It has to wait if .. it knows no effect: on days before the first");
+        TickKeeper x = oneJob(1);
+        x.shift(0, 0, -900);
+        x.mask(0, 0, ALL, ALL);
+        x.mask(0, 1, 0, ALL);
+        x.after(1, 0, true);
+        check.is("it knows no effect", stageOf(x, 1), 0);
+        know(x, 0);
+        check.is("one of day - 1", stageOf(x, 1), 2);
+        TickKeeper y = oneJob(0);
+        y.shift(0, 0, -900);
+        know(y, 0);
+        y.mask(1, 0, ALL, ALL);
+        y.mask(1, 1, 0, ALL);
+        y.set(1, 2, 2);
+        y.after(1, 0, true);
+        y.time(899);
+        check.is("day - 1 still", stageOf(y, 1), 2);
+        TickKeeper z = oneJob(0);
+        z.shift(0, 0, -900);
+        know(z, 0);
+        z.set(1, 2, 2);
+        z.after(1, 0, true);
+        z.time(900);
+        check.is("day 0: one of day - 1 is too early", stageOf(z, 1), 0);
     }
 
     private static void waitingByDays() {
@@ -911,6 +944,33 @@ public final class LetterEdgesTest extends LetterBench {
         give(x, ACCEPTED, 0);
         check.is("no second EFFECT at stage 3", x.letters(), waiting - 1);
         check.is("stage 3", x.register(0, 0, 5), 3);
+    }
+
+    /** What a round claimed is its own, though the scheduler has accepted another moment since. */
+    private static void acceptedOfAnOldRound() {
+        check.of("3 ACCEPTED: .. EFFECT (moment, guard) is sent: of what the round claims");
+        TickKeeper x = oneJob(0);
+        x.time(1);
+        prepare(x, 0, 1);
+        give(x, ACCEPT, 1);
+        x.lose(find(x, PREPARE, 2));
+        x.lose(find(x, ACCEPT, 2));
+        // Minute 0 is claimed again, and done, by 2; then 2 claims minute 1, and 0 accepts that.
+        effect(x, 2, 1, 0);
+        give(x, DONE, 2);
+        x.lose(find(x, PREPARE, 0));
+        x.lose(find(x, ACCEPT, 0));
+        prepare(x, 2, 1);
+        give(x, ACCEPT, 0);
+        isSeat("accepted from 2, the round of ballot 1 being there still", x, 0, 0, 6, 6, 1, 3, -1, 2, 1, 0);
+        give(x, ACCEPTED, 0);
+        isLetter("EFFECT", x, x.letters() - 1, EFFECT, 0, 0, 0, 0, 0, 1, 0);
+        give(x, EFFECT, 0);
+        check.is("a guard and a moment that came before", x.effects(0), 1);
+        give(x, ACCEPTED, 2);
+        give(x, EFFECT, 0);
+        check.is("2 goes on", x.effect(0, 1, 0), 1);
+        check.is("with its guard", x.effect(0, 1, 1), 3);
     }
 
     // ---- desks

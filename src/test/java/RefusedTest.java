@@ -39,9 +39,9 @@ public final class RefusedTest {
     }
 
     private static final Look[] LOOKS = {
-        RefusedTest::lookAtLetters, RefusedTest::lookAtRegisters, RefusedTest::lookAtEffects,
-        RefusedTest::lookAtDueMinutes, RefusedTest::lookAtRoom, RefusedTest::lookAtWhoIsThere,
-        RefusedTest::lookAtRounds, RefusedTest::lookAtTime};
+        RefusedTest::lookAtLetters, RefusedTest::lookAtTheRow, RefusedTest::lookAtRegisters,
+        RefusedTest::lookAtEffects, RefusedTest::lookAtDueMinutes, RefusedTest::lookAtRoom,
+        RefusedTest::lookAtWhoIsThere, RefusedTest::lookAtRounds, RefusedTest::lookAtTime};
 
     public static void main(String[] args) {
         tryAll("new", x -> { }, alwaysRefused());
@@ -320,6 +320,14 @@ public final class RefusedTest {
             for (int what = 0; what < 8; what++) {
                 answers.add(x.letter(i, what));
             }
+        }
+    }
+
+    /** All letters, though not all that they tell. */
+    private static void lookAtTheRow(TickKeeper x, List<Integer> answers) {
+        for (int i = 0; i < 61; i++) {
+            answers.add(x.letter(i, 2));
+            answers.add(x.letter(i, 3));
         }
     }
 
