@@ -14,6 +14,9 @@ public final class ModelTest {
         for (int seed = 0; seed < 250 * times && check.isClean(); seed++) {
             letterRun(seed);
         }
+        for (int seed = 0; seed < 60 * times && check.isClean(); seed++) {
+            mixedRun(seed);
+        }
         for (int seed = 0; seed < 12 * times && check.isClean(); seed++) {
             longSearchRun(seed);
         }
@@ -217,6 +220,44 @@ public final class ModelTest {
             pair.set(random.nextInt(8), 4, random.nextInt(4) == 0 ? 1 : 0);
         } else {
             drawRule(random, pair, random.nextInt(8), false);
+        }
+    }
+
+    /** Zones, rules and modes change too, while rounds are under way and letters wait. */
+    private static void mixedRun(int seed) {
+        Random random = new Random(seed);
+        Pair pair = new Pair("mixed run " + seed, check);
+        int start = random.nextInt(2) == 0 ? someMinute(random) : 0;
+        for (int job = 0; job < 8; job++) {
+            drawJob(random, pair, job);
+        }
+        pair.time(start);
+        while (pair.calls() < 512) {
+            if (random.nextInt(5) > 0) {
+                letterStep(random, pair, start, 0);
+            } else {
+                settingStep(random, pair, clip(start + pair.calls() * 15), random.nextInt(8));
+            }
+            if (random.nextInt(25) == 0) {
+                pair.compareAll();
+            }
+        }
+        pair.compareAll();
+    }
+
+    private static void settingStep(Random random, Pair pair, int near, int job) {
+        int zone = random.nextInt(2);
+        switch (random.nextInt(10)) {
+            case 0: pair.shift(zone, clip(near + between(random, -500, 900)), 60 * between(random, -15, 15)); break;
+            case 1: pair.holiday(zone, near / 1440 + between(random, -4, 2)); break;
+            case 2: pair.mask(job, 2, 0, random.nextInt() | random.nextInt() | random.nextInt()); break;
+            case 3: pair.nth(job, between(random, 0, 6), random.nextInt(3) == 0 ? between(random, 1, 6) : 0); break;
+            case 4: pair.set(job, 0, zone); break;
+            case 5: pair.set(job, 1, random.nextInt(2)); break;
+            case 6: pair.set(job, 2, random.nextInt(3)); break;
+            case 7: pair.set(job, 3, random.nextInt(10) == 0 ? 100000 : random.nextInt(3000)); break;
+            case 8: pair.except(job, pair.register(random.nextInt(3), job, 2)); break;
+            default: pair.mask(job, 1, 0, -1); break;
         }
     }
 
